@@ -13,12 +13,14 @@ public final class CentreTest {
         grantMakesTicketAndPart();
         grantEndForService();
         grantEndForCentre();
+        lastIsByTheCentresClock();
         grantOfGranted();
-        grantOfServiceTicketWithForgedOnes();
+        grantOfForgedTickets();
         grantUnknown();
         grantBadSeal();
         grantMismatch();
         grantLate();
+        grantIsByTheCentresClock();
         grantFull();
         due.end();
     }
@@ -235,6 +237,17 @@ public final class CentreTest {
         due.is("after LAST", TicketRealm.LATE, x.grant(ticket, x.ask(2, 0), 0, x.look(3, 2), 5));
     }
 
+    private static void lastIsByTheCentresClock() {
+        TicketRealm x = Scene.enrolled(0);
+        x.limit(2, 10);
+        x.tick(0, 7);
+        x.tick(2, 7);
+        int ticket = Scene.credential(x, 2, 0, 99);
+        x.limit(2, 1000);
+        x.limit(0, 1000);
+        due.is("START + 5 * limit", 57, x.seal(renewed(x, ticket, 999), 1));
+    }
+
     private static int renewed(TicketRealm x, int ticket, int life) {
         int next = x.grant(ticket, x.ask(2, 0), 0, x.look(3, 2), life);
         x.receive(2, next + 1, next);
@@ -252,8 +265,8 @@ public final class CentreTest {
         due.is("no forged claim without a stolen key", TicketRealm.BAD_SEAL, fourth);
     }
 
-    /** LAST of a forged ticket is its END; the service's ticket does not open with the key of 0. */
-    private static void grantOfServiceTicketWithForgedOnes() {
+    /** LAST of a forged ticket is its END; a ticket for the service does not open with the key of 0. */
+    private static void grantOfForgedTickets() {
         TicketRealm x = Scene.enrolled(0);
         x.steal(0);
         int forged = x.forge(0, 2, 2, 0, 6);
@@ -355,6 +368,19 @@ public final class CentreTest {
         due.is("END is over", TicketRealm.LATE, x.grant(ended, claim, 1, 2, 5));
         int longOver = x.forge(0, 2, 2, 0, Integer.MIN_VALUE);
         due.is("END is long over", TicketRealm.LATE, x.grant(longOver, claim, 1, 2, 5));
+    }
+
+    private static void grantIsByTheCentresClock() {
+        TicketRealm x = Scene.enrolled(0);
+        x.tick(0, 4);
+        x.tick(2, 4);
+        int first = Scene.credential(x, 2, 0, 3);
+        due.is("the service's clock is behind", 4, x.grant(first, x.ask(2, 1), 1, 2, 5));
+        x.tick(1, 90);
+        due.is("the service's clock is ahead", 7, x.grant(first, x.ask(2, 1), 1, 3, 5));
+        x.tick(0, 4);
+        x.tick(2, 4);
+        due.is("END is over, though LAST is not", TicketRealm.LATE, x.grant(first, x.ask(2, 0), 0, 4, 5));
     }
 
     private static void grantFull() {

@@ -14,6 +14,7 @@ public final class ThiefTest {
         forgeClaimOrders();
         forgeUnknown();
         forgeBadSeal();
+        forgeWithAllKeysMade();
         forgeFull();
         due.end();
     }
@@ -191,6 +192,18 @@ public final class ThiefTest {
         due.is("a claim's a is no key", 1, x.forge(2, 4, 2, 3, 0));
     }
 
+    private static void forgeWithAllKeysMade() {
+        TicketRealm x = new TicketRealm(0);
+        for (int key = 0; key < 200; key++) {
+            x.enrol(2);
+        }
+        due.is("the last key", TicketRealm.BAD_SEAL, x.forge(199, 1, 2, 0, 0));
+        due.is("steal it", 199, x.steal(2));
+        due.is("with it", 0, x.forge(199, 2, 2, 199, 0));
+        due.is("beyond it", TicketRealm.BAD_SEAL, x.forge(200, 1, 2, 0, 0));
+        due.is("holding one beyond it", TicketRealm.BAD_SEAL, x.forge(199, 2, 2, 200, 0));
+    }
+
     private static void forgeFull() {
         TicketRealm x = Scene.enrolled(0);
         x.steal(2);
@@ -203,6 +216,9 @@ public final class ThiefTest {
         due.is("BAD_SEAL before FULL", TicketRealm.BAD_SEAL, x.forge(3, 1, 2, 2, 0));
         due.is("UNKNOWN before FULL", TicketRealm.UNKNOWN, x.forge(2, 5, 2, 2, 0));
         due.is("seals", 150, x.look(6, 0));
-        due.is("the last one is learnt from", 2, x.learn(149 - 3));
+        due.is("learn from the last, a ticket", 2, x.learn(149));
+        due.is("learn from the one before, a proof", 0, x.learn(148));
+        due.is("no seal is beyond it", TicketRealm.UNKNOWN, x.learn(150));
+        due.is("nor shows", TicketRealm.UNKNOWN, x.seal(150, 0));
     }
 }

@@ -8,6 +8,7 @@ public final class UserTest {
         tickGrowsOneClock();
         loginMakesProofAndRequest();
         loginRefuses();
+        loginIsByOwnKeyNotTheBooks();
         noncesAreSharedByUsers();
         loginReplacesRequest();
         askMakesClaimAndRequest();
@@ -21,6 +22,8 @@ public final class UserTest {
         orderRefuses();
         serialsCountClaimsOfOneUser();
         fullAtHundredAndFiftySeals();
+        theLastSealMayBeOfAnyCall();
+        sealsAreMadeWithoutRoomForKeys();
         due.end();
     }
 
@@ -70,6 +73,19 @@ public final class UserTest {
         due.is("no nonce was used", 1, x.look(3, 2));
     }
 
+    private static void loginIsByOwnKeyNotTheBooks() {
+        TicketRealm x = Scene.enrolled(0);
+        x.save();
+        x.enrol(2);
+        x.crash();
+        due.is("login", 0, x.login(2, 1));
+        due.is("the proof is not under the key in the book", TicketRealm.BAD_SEAL, x.issue(2, 1, 1, 0, 5));
+        due.is("nor under another that is stolen", TicketRealm.BAD_SEAL, x.learn(0));
+        x.steal(2);
+        due.is("but under the own one", 0, x.learn(0));
+        due.is("the request's key is the own one", true, x.receive(2, x.forge(4, 3, 0, 4, 1), 0));
+    }
+
     private static void noncesAreSharedByUsers() {
         TicketRealm x = Scene.enrolled(0);
         x.login(2, 0);
@@ -104,7 +120,6 @@ public final class UserTest {
         due.is("kind", 4, x.seal(claim, 0));
         due.is("time", 3, x.seal(claim, 2));
         due.is("nonce", 2, x.look(3, 2));
-        due.is("operation 0 is nothing to serve", TicketRealm.BAD_SEAL, x.serve(ticket, claim));
         int next = x.grant(ticket, claim, 0, 2, 5);
         due.is("grant", 4, next);
         due.is("receive", true, x.receive(2, next + 1, next));
@@ -285,5 +300,33 @@ public final class UserTest {
         due.is("the request is as before", nonce, x.look(3, 2));
         due.is("seals", 150, x.look(6, 0));
         due.is("the last one shows", 4, x.seal(149, 0));
+        due.is("a key is still made", 6, x.enrol(2));
+    }
+
+    private static void theLastSealMayBeOfAnyCall() {
+        for (int row = 0; row < 3; row++) {
+            TicketRealm x = Scene.enrolled(0);
+            Scene.credential(x, 2, 0, 5);
+            Scene.credential(x, 2, 1, 5);
+            while (x.look(6, 0) < 149) {
+                x.login(3, 0);
+            }
+            int made = row == 0 ? x.login(2, 0) : row == 1 ? x.ask(2, 0) : x.order(2, 1, 0, 0);
+            due.is("the last seal in row " + row, 149, made);
+        }
+    }
+
+    private static void sealsAreMadeWithoutRoomForKeys() {
+        TicketRealm x = Scene.enrolled(0);
+        Scene.credential(x, 2, 0, 5);
+        Scene.credential(x, 2, 1, 5);
+        while (x.look(7, 0) < 200) {
+            x.enrol(3);
+        }
+        due.is("login", 6, x.login(2, 1));
+        due.is("ask", 7, x.ask(2, 1));
+        due.is("order", 8, x.order(2, 1, 0, 0));
+        x.steal(2);
+        due.is("forge", 9, x.forge(2, 1, 2, 0, 0));
     }
 }
